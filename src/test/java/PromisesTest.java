@@ -188,9 +188,16 @@ public final class PromisesTest {
         faultOf("behind the code", Sample.thread("n 0 0"), 'p', 1, 0.0);
         faultOf("jump to nothing", Sample.thread("c 0 1; j 0 59"), 'p', 59, 0.0);
         faultOf("return to a low place", Sample.thread("c 0 -5; e 0 1; s 0 0; r 0 0"), 'p', -5, 1.0);
+        faultOf("e of 4 to 41", Sample.thread("e 0 4; e 0 4; e 0 4; e 0 4; e 0 4; e 0 4; e 0 4; e 0 0; e 0 4"),
+                'o', 8, 36.0);
+        faultOf("e of 0 to 41", Sample.thread("e 0 4; e 0 4; e 0 4; e 0 4; e 0 4; e 0 4; e 0 4; e 0 4; e 0 0"),
+                'o', 8, 40.0);
         Unwindlens exact = Sample.thread("e 0 4; e 0 4; e 0 4; e 0 4; e 0 4; e 0 4; e 0 4; e 0 4; h 0 0");
         exact.run(20);
         is("40 words are no fault", exact.state(0), 'd');
+        Unwindlens empty = Sample.thread("e 0 0; x 0 0; r 0 0");
+        empty.run(20);
+        is("x with the base at the size is no fault", empty.state(0), 'd');
     }
 
     /** An r takes off the word of the base, so that the base is above the size then. */
@@ -474,6 +481,12 @@ public final class PromisesTest {
         x.hold(0, true);
         is("going back", x.back(2), 3);
         is("leaves holds", x.hold(0, true) ? 1 : 0, 1);
+        x.hold(0, false);
+        x.run(500);
+        is("one that is done was not", x.hold(0, true) ? 1 : 0, 0);
+        is("is held though it can not go", x.hold(0, true) ? 1 : 0, 1);
+        x.back(1);
+        is("so it does not go behind going back", x.run(1), 0);
         fails("no thread", INDEX, x, () -> x.hold(1, true));
         fails("low thread", INDEX, x, () -> x.hold(-1, true));
     }
@@ -561,9 +574,40 @@ public final class PromisesTest {
         is("then the base is no place", z.frames(0), 2);
         z.rule(3, 'i');
         is("no word 2 below the base", z.frames(0), 1);
+        Unwindlens gone = new Unwindlens();
+        Sample.code(gone, "n 0 0; k 0 1; h 0 0; e 0 0; r 0 0");
+        gone.function(0, 2);
+        gone.function(3, 4);
+        gone.thread(0);
+        gone.run(3);
+        is("by the rule o", gone.frames(0), 1);
+        gone.rule(0, 'i');
+        gone.rule(4, 'i');
+        is("both words are there", gone.frames(0), 2);
+        gone.run(1);
+        is("an r took the base off", gone.frame(0, 0, 'b'), 2);
+        is("and went to its word", gone.frame(0, 0, 'p'), 0);
+        is("no word 1 below the base", gone.frames(0), 1);
+        framesOfSizeZero();
         Unwindlens low = Sample.thread("e 0 0; n 0 0; h 0 0");
         low.run(2);
         is("a word 0 is no place", low.frames(0), 1);
+    }
+
+    /** The frame behind the first one has the size 0, though the words that its rule i needs are on the stack. */
+    private static void framesOfSizeZero() {
+        Unwindlens x = Sample.thread("k 0 0; n 0 0; n 0 0; e 0 0; r 0 0; e 0 1; n 0 0");
+        x.rule(0, 'i');
+        x.run(2);
+        for (int place : new int[] {3, 4, 4, 5}) {
+            x.jump(0, place);
+            x.run(1);
+        }
+        CHECKS.is("three words", x.meanStack(), 3.0);
+        is("base of the first", x.frame(0, 0, 'b'), 2);
+        is("base of the next", x.frame(0, 1, 'b'), 3);
+        is("place of the next", x.frame(0, 1, 'p'), 0);
+        is("none behind the size 0", x.frames(0), 2);
     }
 
     private static void frame() {
@@ -714,6 +758,25 @@ public final class PromisesTest {
         is("word 1", x.value(0, 0, 'w', 1), 2);
         x.set(0, 0, 'g', 1, 33);
         is("cell 15", x.value(0, 0, 'g', 1), 33);
+        valueOfThreads();
+    }
+
+    private static void valueOfThreads() {
+        Unwindlens x = Sample.named();
+        x.variable(0, 'r', 'i', 1);
+        x.where(1, 0, 9, 'r', 0);
+        x.where(0, 0, 0, 's', 0);
+        x.thread(1);
+        x.run(4);
+        is("the first word of a stack", x.value(1, 0, 'x', 0), 12);
+        x.hold(0, true);
+        x.run(7);
+        is("register of thread 1", x.value(1, 0, 'r', 0), 5);
+        is("slot of thread 1", x.value(1, 0, 'x', 0), 7);
+        is("slot of thread 0", x.value(0, 0, 'x', 0), 12);
+        is("set in thread 1", x.set(1, 0, 'x', 0, 9), 7);
+        is("not in thread 0", x.value(0, 0, 'x', 0), 12);
+        is("but there", x.value(1, 0, 'x', 0), 9);
     }
 
     private static Unwindlens shower(char kind, int words, int... cells) {
@@ -830,6 +893,10 @@ public final class PromisesTest {
         is("of function 0", x.which(), 0);
         fails("no function", INDEX, x, () -> x.stopIn(2));
         fails("low function", INDEX, x, () -> x.stopIn(-1));
+        Unwindlens y = Sample.base();
+        y.rule(13, 'i');
+        y.stopIn(1);
+        is("the last place has the first rule i", y.run(50), 13);
         is("at a later rule", x.stopIn(0), 2);
         is("to it", x.run(50), 2);
         is("place", x.frame(0, 0, 'p'), 3);
@@ -873,6 +940,20 @@ public final class PromisesTest {
         y.stop(7);
         y.when(0, 'x', '=', 7);
         is("not seen in the inlined frame", y.run(50), 14);
+        Unwindlens z = Sample.named();
+        z.variable(0, 'r', 'i', 1);
+        z.where(1, 0, 9, 'r', 2);
+        z.thread(1);
+        z.stop(7);
+        z.when(0, 'r', '=', 7);
+        is("a register", z.run(50), 18);
+        z.when(0, 'x', '=', 8);
+        z.set(1, 0, 'x', 0, 6);
+        z.set(0, 0, 'x', 0, 8);
+        is("the slot of thread 0", z.run(50), 0);
+        z.when(0, 'x', '=', 6);
+        is("the slot of thread 1", z.run(50), 1);
+        is("both", z.hits(0), 3);
     }
 
     private static Unwindlens loop() {
@@ -1073,6 +1154,7 @@ public final class PromisesTest {
         Unwindlens z = Sample.thread("c 3 1; j 3 0");
         is("at most 200", z.stepLine(0, 'i'), 200);
         is("all steps", z.reason(), 'n');
+        is("no step more", z.time(), 200);
         z.line(1, 4);
         z.jump(0, 1);
         is("at least one step", z.stepLine(0, 'i'), 2);
@@ -1245,6 +1327,36 @@ public final class PromisesTest {
         x.back(1);
         x.run(1);
         is("hit again behind going back", x.hits(0), 2);
+        backToStart();
+    }
+
+    private static void backToStart() {
+        Unwindlens x = Sample.named();
+        x.thread(1);
+        x.run(10);
+        x.set(0, 0, 'x', 0, 40);
+        long sum = x.checksum();
+        x.run(1);
+        x.set(1, 0, 'x', 0, 41);
+        sum = x.checksum();
+        x.run(7);
+        is("to the start of what is kept", x.back(7), 11);
+        is("with the words of stacks", x.value(0, 0, 'x', 0) * 100 + x.value(1, 0, 'x', 0), 4041);
+        is("its sum", x.checksum(), sum);
+        x.run(1);
+        is("its turn", x.frame(1, 0, 'p') * 100 + x.frame(0, 0, 'p'), 404);
+        Unwindlens y = Sample.base();
+        y.thread(1);
+        y.stop(10);
+        y.run(1);
+        y.stepLine(1, 'i');
+        is("stopped for both", y.hits(0), 2);
+        y.hold(0, true);
+        y.run(1);
+        y.hold(0, false);
+        y.back(1);
+        is("hit again, though it did not go", y.run(1), 0);
+        is("by going back", y.hits(0), 3);
     }
 
     private static void backTo() {
@@ -1355,6 +1467,9 @@ public final class PromisesTest {
         is("place", x.frame(1, 0, 'p'), 2);
         x.run(1);
         is("1 goes behind 0, which went last", x.frame(1, 0, 'p'), 3);
+        x.call(0, 0, 1);
+        x.run(1);
+        is("1 goes behind 0, which was called", x.frame(1, 0, 'p'), 4);
         x.hold(0, true);
         is("a held one", x.call(0, 0, MAX), MIN + 1);
         fails("no thread", INDEX, x, () -> x.call(2, 0, 0));
@@ -1410,6 +1525,7 @@ public final class PromisesTest {
         y.code('r', 0, 0);
         y.patch(18, 'n', 0, 0);
         fails("201 steps", UNSUPPORTED, y, () -> y.call(0, 2, 66));
+        callThatLosesTheWord();
         Unwindlens z = Sample.thread("e 0 4; e 0 4; e 0 4; e 0 4; e 0 4; e 0 4; e 0 4; e 0 4; h 0 0; r 0 0");
         z.code('r', 0, 0);
         z.function(10, 10);
@@ -1417,6 +1533,24 @@ public final class PromisesTest {
         is("35 words leave room", z.call(0, 1, 4), 4);
         z.run(1);
         fails("40 words do not", UNSUPPORTED, z, () -> z.call(0, 1, 4));
+    }
+
+    /** An x takes off the word that was put on the stack, and an r takes another one off at the same place. */
+    private static void callThatLosesTheWord() {
+        Unwindlens x = new Unwindlens();
+        Sample.code(x, "n 0 0; k 0 1; h 0 0; e 0 0; r 0 0; x 0 0; k 0 3; r 0 0; r 0 0");
+        x.function(0, 2);
+        x.function(3, 4);
+        x.function(5, 7);
+        x.function(8, 8);
+        x.thread(0);
+        x.run(4);
+        is("base above the size", x.frame(0, 0, 'b'), 2);
+        CHECKS.is("one word", x.meanStack(), 1.0);
+        fails("an x takes the word off", UNSUPPORTED, x, () -> x.call(0, 2, 1));
+        x.patch(5, 'n', 0, 0);
+        is("an r of a call within does not end it", x.call(0, 2, 1), 1);
+        is("all four steps", x.time(), 8);
     }
 
     private static void doneShare() {

@@ -667,11 +667,12 @@ public final class Unwindlens {
     }
 
     private boolean isHit(int thread) {
-        int breakpoint = breakpoints.hitBy(now, thread);
-        if (breakpoint != NONE) {
-            endBy('b', breakpoint);
+        int breakpoint = breakpoints.lowestHit(now, thread);
+        if (!breakpoints.stopsBy(breakpoint, thread)) {
+            return false;
         }
-        return breakpoint != NONE;
+        endBy('b', breakpoint);
+        return true;
     }
 
     private void step(int thread) {
@@ -1712,23 +1713,32 @@ public final class Unwindlens {
             return isBreakpoint(breakpoint) ? counted[breakpoint] : 0;
         }
 
-        /** The breakpoint that stops a thread which is about to go; hits that are passed over are counted. */
-        int hitBy(Target target, int thread) {
-            if (!isBelow(thread, THREADS)) {
-                return NONE;
-            }
+        /** The one breakpoint that a thread hits which is about to go: others at the place have no hit then. */
+        int lowestHit(Target target, int thread) {
             for (int breakpoint = 0; breakpoint < count; breakpoint++) {
-                boolean stoppedIt = (stops[thread] >> breakpoint & 1) != 0;
-                if (!stoppedIt && isAt(breakpoint, target, thread)) {
-                    counted[breakpoint]++;
-                    if (passing[breakpoint] == 0) {
-                        stops[thread] |= 1 << breakpoint;
-                        return breakpoint;
-                    }
-                    passing[breakpoint]--;
+                if (!hasStopped(breakpoint, thread) && isAt(breakpoint, target, thread)) {
+                    return breakpoint;
                 }
             }
             return NONE;
+        }
+
+        /** Counts a hit, and answers whether it stops the run. */
+        boolean stopsBy(int breakpoint, int thread) {
+            if (!isBreakpoint(breakpoint) || !isBelow(thread, THREADS)) {
+                return false;
+            }
+            counted[breakpoint]++;
+            if (passing[breakpoint] > 0) {
+                passing[breakpoint]--;
+                return false;
+            }
+            stops[thread] |= 1 << breakpoint;
+            return true;
+        }
+
+        private boolean hasStopped(int breakpoint, int thread) {
+            return isBelow(thread, THREADS) && (stops[thread] >> breakpoint & 1) != 0;
         }
 
         boolean isAnyAt(Target target, int thread) {

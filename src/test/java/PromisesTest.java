@@ -978,15 +978,44 @@ public final class PromisesTest {
         fails("low breakpoint", INDEX, x, () -> x.pass(-1, 0));
         fails("too many", ARGUMENT, x, () -> x.pass(0, 100));
         fails("too few", ARGUMENT, x, () -> x.pass(0, -2));
+        passBesideOthers();
+    }
+
+    private static void passBesideOthers() {
+        Unwindlens x = loop();
+        x.stop(1);
+        x.stop(1);
+        x.pass(0, 1);
+        is("one that is passed over is the only hit", x.run(50), 4);
+        is("is counted", x.hits(0), 2);
+        is("the next hit is its own", x.which(), 0);
+        is("of the other none so far", x.hits(1), 0);
+        is("behind the lower one", x.run(50), 0);
+        is("comes the other", x.which(), 1);
+        is("both are over", x.run(50), 3);
+        is("and come again", x.which(), 0);
         Unwindlens y = loop();
         y.stop(1);
         y.stop(1);
-        y.pass(0, 1);
-        is("behind one that is passed over", y.run(50), 1);
-        is("comes the other", y.which(), 1);
-        is("by which no run stopped yet", y.run(50), 0);
-        is("is hit", y.which(), 0);
-        is("both are over", y.run(50), 3);
+        y.stop(1);
+        y.pass(1, 1);
+        is("the lowest", y.run(50), 1);
+        is("stops", y.which(), 0);
+        is("the one behind is passed over", y.run(50), 3);
+        is("the lowest again", y.which(), 0);
+        is("each was counted", y.hits(1), 1);
+        is("the last one not", y.hits(2), 0);
+        is("nothing is left to pass over", y.run(50), 0);
+        is("the one behind stops", y.which(), 1);
+        is("then the last one", y.run(50), 0);
+        is("stops", y.which(), 2);
+        Unwindlens z = loop();
+        z.stop(1);
+        z.stop(1);
+        z.pass(0, 9);
+        is("also by lines", z.stepLine(0, 'i'), 28);
+        is("only the lower one is counted", z.hits(0), 10);
+        is("never the other", z.hits(1), 0);
     }
 
     private static void hits() {

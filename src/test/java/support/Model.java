@@ -667,7 +667,7 @@ public final class Model {
             it.hits++;
             if (it.passing > 0) {
                 it.passing--;
-                continue;
+                return false;
             }
             it.stopped[thread] = true;
             reason = 'b';

@@ -1097,6 +1097,7 @@ public final class TermsOfRunsTest {
         other.code('r', 0, 0);
         other.function(first, first + 2);
         fails("an 'x' that takes it off is none", UNSUPPORTED, other, () -> other.call(0, 2, 1));
+        fails("nor an 'r' behind that", UNSUPPORTED, another(), () -> another().call(0, 2, 1));
         says("in at most 200 steps,");
         Unwindlens most = callable();
         Sample.code(most, "c 1 1; - 0 1; j 0 16; n 0 0; r 0 0");
@@ -1137,6 +1138,16 @@ public final class TermsOfRunsTest {
         long sum = low.checksum();
         is("one that changes words below", low.call(0, 2, 1), 50);
         is("they are as they were", low.checksum(), sum);
+    }
+
+    /** A call of its function 2 takes the word off by an 'x', and then another one, put in its place, by an 'r'. */
+    private static Unwindlens another() {
+        Unwindlens x = Lab.stack(4, 1, 2, 3);
+        int first = x.code('x', 0, 0);
+        Sample.code(x, "k 0 3; r 0 0; r 0 0");
+        x.function(first, first + 2);
+        x.function(first + 3, first + 3);
+        return x;
     }
 
     private static void callsThatDoNotReturn() {

@@ -865,11 +865,32 @@ public final class PromisesOfRunsTest {
         x.where(2, 0, 9, 'r', 3);
         x.set(0, 0, 'r', 0, 77);
         is("in a register", x.register(0, 3), 77);
+        setAlone();
         says("Returns the word before.");
         is("of a register", x.set(0, 0, 'r', 0, 78), 77);
         is("of a slot", x.set(0, 0, 'v', 0, 1), 41);
         is("of a cell", x.set(0, 0, 'w', 2, 1), 46);
         is("set again", x.set(0, 0, 'w', 2, 1), 1);
+    }
+
+    /** Registers, slots and cells of the same numbers are set, and nothing else becomes another one. */
+    private static void setAlone() {
+        for (int number = 0; number < 4; number++) {
+            Unwindlens x = Sample.thread("e 0 4; h 0 0");
+            x.scope(0, 1);
+            x.variable(0, 'v', 'i', 1);
+            x.run(1);
+            int[] registers = new int[4];
+            int[] words = new int[5];
+            Whole due = new Whole().cell(number, 93);
+            x.where(0, 0, 1, 'r', number);
+            x.set(0, 0, 'v', 0, registers[number] = 91);
+            x.where(0, 0, 1, 's', number);
+            x.set(0, 0, 'v', 0, words[number + 1] = 92);
+            x.where(0, 0, 1, 'g', number);
+            x.set(0, 0, 'v', 0, 93);
+            is("no other word", x.checksum(), due.thread(1, 1, registers, 'r', words).sum());
+        }
     }
 
     private static void setRefused() {

@@ -929,6 +929,18 @@ public final class TermsOfRunsTest {
         fails("no fault any more", ELEMENT, fault, () -> fault.fault(0));
         fault.back(1);
         is("the cell", fault.cell(4), 0);
+        Unwindlens stack = Lab.stack(0, 1, 2, 3);
+        int first = stack.code('c', 0, 50);
+        Sample.code(stack, "s 0 0; s 0 1; s 0 2; r 0 0");
+        stack.jump(0, first);
+        long sum = stack.checksum();
+        stack.run(4);
+        DOC.yes("there and back", stack.isTrue());
+        stack.back(4);
+        is("words that were there as the first step was made", stack.checksum(), sum);
+        stack.jump(0, 8);
+        is("each of them", stack.value(0, 0, 'w', 0) * 100 + stack.value(0, 0, 'x', 0) * 10
+                + stack.value(0, 0, 'y', 0), 123);
         says("holds, breakpoints, watches and hits stay as they are.");
         Unwindlens y = loop();
         y.run(2);
@@ -1123,6 +1135,11 @@ public final class TermsOfRunsTest {
         is("no hit", stopped.hits(0) + stopped.hits(1), 0);
         ends("nothing ended a run", stopped, 'n', -1);
         runs("the watch does not tell it later", stopped, 500, 6, 'd', -1);
+        Unwindlens below = Lab.stack(0, 1, 2, 3);
+        int reads = below.code('l', 0, 1);
+        Sample.code(below, "l 1 2; + 0 1; r 0 0");
+        below.function(reads, reads + 3);
+        is("it reads the words below", below.call(0, 2, 0), 5);
         says("its registers, stack, base and place are then as they were, cells stay, and the time goes on.");
         Unwindlens y = callable();
         y.run(5);

@@ -899,6 +899,16 @@ public final class TermsTest {
         named(y, 0, 'b', 10);
         named(y, 0, 'b', 11);
         named(y, 2, 'c', 12);
+        // The outer ones are told behind the inner ones.
+        Unwindlens outer = Sample.base();
+        for (int scope = 0; scope < 3; scope++) {
+            outer.scope(10, 11 + scope);
+            named(outer, scope, 'a', scope);
+        }
+        for (int scope = 0; scope < 3; scope++) {
+            outer.jump(0, 11 + scope);
+            is("the innermost, though told first, at " + (11 + scope), outer.value(0, 0, 'a', 0), scope);
+        }
         int[] places = {10, 11, 12, 13};
         int[] values = {1, 1, 3, 0};
         for (int i = 0; i < 4; i++) {
